@@ -8,6 +8,8 @@ public final class ModelTest {
     private static final int RUNS = 3000;
     private static final int CALLS = 512;
     private static final int KINDS = 13;
+    private static final int ASKING = 6;
+    private static final int ASKED_LAST = 150;
 
     private final Random random;
     private final int[] weights = new int[KINDS];
@@ -42,14 +44,11 @@ public final class ModelTest {
         }
         StringBuilder calls = new StringBuilder();
         for (int i = 0; i < CALLS; i++) {
-            int want;
-            int got;
-            int[] answers = i < CALLS - 150 ? next(drawn()) : next(6 + random.nextInt(7));
-            got = answers[0];
-            want = answers[1];
+            // The last calls of a run mostly ask, so that what the others changed is seen.
+            int[] answers = next(i < CALLS - ASKED_LAST ? drawn() : ASKING + random.nextInt(KINDS - ASKING));
             calls.append(call).append(' ');
-            if (got != want) {
-                System.out.println("seed " + seed + ", call " + i + ": " + call + " answered " + got + ", due is " + want);
+            if (answers[0] != answers[1]) {
+                System.out.println("seed " + seed + ": " + call + " answered " + answers[0] + ", due is " + answers[1]);
                 System.out.println("  behind " + calls);
                 return false;
             }

@@ -134,6 +134,9 @@ public final class MovingTest {
         check.due("7 at the beginning", Check.shown(x), "| ab/ cd e");
         check.doesTimes(x, 2, 6);
         check.due("6, twice", Check.shown(x), " ab/ cd| e");
+        EditorCore shorter = check.start("abc|");
+        check.does(shorter, 9, 1, 6);
+        check.due("6 to the end of a text that was longer", Check.shown(shorter), "ab|");
         EditorCore blanks = check.start("a| / ");
         check.does(blanks, 6);
         check.due("6 without another word", Check.shown(blanks), "a / |");

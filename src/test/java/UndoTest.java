@@ -7,6 +7,7 @@ public final class UndoTest {
         undoingUndone(check);
         goingOn(check);
         latestAreKept(check);
+        manyTakenOut(check);
         placesMove(check);
         check.end();
     }
@@ -115,6 +116,22 @@ public final class UndoTest {
             check.due("length", x.info(0), steps - undone);
             check.due("steps", x.info(4), steps + undone);
         }
+    }
+
+    private static void manyTakenOut(Check check) {
+        EditorCore x = new EditorCore();
+        for (int i = 0; i < 50; i++) {
+            check.types(x, i % 2 == 0 ? "a" : "b");
+        }
+        for (int i = 0; i < 45; i++) {
+            check.does(x, 9);
+        }
+        check.due("taken out", Check.shown(x), "ababa|");
+        for (int i = 0; i < 10; i++) {
+            check.does(x, 19);
+        }
+        check.due("ten of them undone", Check.shown(x), "abababababababa|");
+        check.due("no more are kept", x.command(19), -2);
     }
 
     private static void placesMove(Check check) {
