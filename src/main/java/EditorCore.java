@@ -306,9 +306,9 @@ public final class EditorCore {
             case COPY_REGION:
                 return copy(regionBeginning(), regionEnd());
             case YANK:
-                return putKill(0, text.point, 0);
+                return putKill(0, text.point);
             case YANK_OLDER:
-                return putOlderKill();
+                return putKill(olderKill(), text.places[Text.MARK]);
             case SET_MARK:
                 return setMark(text.point);
             case SWAP_MARK:
@@ -381,12 +381,13 @@ public final class EditorCore {
         return DONE;
     }
 
-    private int putKill(int number, int place, int gone) {
-        if (number >= kills.count) {
+    /** Puts a kill in from the place to point; behind a yank, what that put in still lies from mark to point. */
+    private int putKill(int number, int place) {
+        if (number < 0 || number >= kills.count) {
             return NOTHING;
         }
         Letters kill = kills.rows[number];
-        if (history.edit(text, place, gone, kill, false) == FULL) {
+        if (history.edit(text, place, text.point - place, kill, false) == FULL) {
             return FULL;
         }
         yanked = number;
@@ -394,14 +395,11 @@ public final class EditorCore {
         return setMark(place);
     }
 
-    private int putOlderKill() {
+    private int olderKill() {
         if (last != YANK && last != YANK_OLDER) {
-            return NOTHING;
+            return NONE;
         }
-        int older = yanked + 1 < kills.count ? yanked + 1 : 0;
-        // No command came between, so the text that was put in still lies from mark to point.
-        int mark = text.places[Text.MARK];
-        return putKill(older, mark, text.point - mark);
+        return yanked + 1 < kills.count ? yanked + 1 : 0;
     }
 
     private int setMark(int place) {
