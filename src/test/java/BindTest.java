@@ -11,50 +11,45 @@ public final class BindTest {
         check.end();
     }
 
-    private static void binds(Check check, EditorCore x, int first, int second, int third, int number, int want) {
-        check.due("bind(" + first + ", " + second + ", " + third + ", " + number + ")",
-            x.bind(first, second, third, number), want);
-    }
-
     private static void wrongNumbers(Check check) {
         EditorCore x = new EditorCore();
         int[] wrong = {Integer.MIN_VALUE, -2, 16, 17, 100, Integer.MAX_VALUE};
         for (int key : wrong) {
-            binds(check, x, key, -1, -1, 0, -1);
-            binds(check, x, 0, key, -1, 0, -1);
-            binds(check, x, 0, key, 0, 0, -1);
-            binds(check, x, 0, 0, key, 0, -1);
-            binds(check, x, 0, 0, key, -1, -1);
+            check.binds(x, key, -1, -1, 0, -1);
+            check.binds(x, 0, key, -1, 0, -1);
+            check.binds(x, 0, key, 0, 0, -1);
+            check.binds(x, 0, 0, key, 0, -1);
+            check.binds(x, 0, 0, key, -1, -1);
         }
-        binds(check, x, -1, -1, -1, 0, -1);
-        binds(check, x, -1, 0, 0, 0, -1);
-        binds(check, x, 0, -1, 0, 0, -1);
-        binds(check, x, 0, -1, 15, -1, -1);
+        check.binds(x, -1, -1, -1, 0, -1);
+        check.binds(x, -1, 0, 0, 0, -1);
+        check.binds(x, 0, -1, 0, 0, -1);
+        check.binds(x, 0, -1, 15, -1, -1);
         for (int number : new int[] {Integer.MIN_VALUE, -2, 22, 100, 1000, Integer.MAX_VALUE}) {
-            binds(check, x, 0, -1, -1, number, -1);
-            binds(check, x, 0, 0, 0, number, -1);
+            check.binds(x, 0, -1, -1, number, -1);
+            check.binds(x, 0, 0, 0, number, -1);
         }
         check.due("bindings", x.info(8), 0);
     }
 
     private static void bindsAndTakesAway(Check check) {
         EditorCore x = check.start("ab|cd");
-        binds(check, x, 0, -1, -1, 0, 0);
-        binds(check, x, 15, 15, -1, 1, 0);
-        binds(check, x, 15, 0, 15, 5, 0);
+        check.binds(x, 0, -1, -1, 0, 0);
+        check.binds(x, 15, 15, -1, 1, 0);
+        check.binds(x, 15, 0, 15, 5, 0);
         check.due("bindings", x.info(8), 3);
         check.due("press(0)", x.press(0), 0);
         check.due("0", Check.shown(x), "abc|d");
-        binds(check, x, 0, -1, -1, 1, 0);
+        check.binds(x, 0, -1, -1, 1, 0);
         check.due("bound anew, not once more", x.info(8), 3);
         check.due("press(0)", x.press(0), 0);
         check.due("1", Check.shown(x), "ab|cd");
-        binds(check, x, 0, -1, -1, -1, 0);
+        check.binds(x, 0, -1, -1, -1, 0);
         check.due("bindings", x.info(8), 2);
         check.due("press(0)", x.press(0), -4);
-        binds(check, x, 0, -1, -1, -1, 0);
-        binds(check, x, 15, 1, -1, -1, 0);
-        binds(check, x, 15, 0, 14, -1, 0);
+        check.binds(x, 0, -1, -1, -1, 0);
+        check.binds(x, 15, 1, -1, -1, 0);
+        check.binds(x, 15, 0, 14, -1, 0);
         check.due("what is not bound can be taken away", x.info(8), 2);
         check.due("press(15)", x.press(15), 1000);
         check.due("press(0)", x.press(0), 1000);
@@ -63,25 +58,25 @@ public final class BindTest {
         check.due("press(15)", x.press(15), 1000);
         check.due("press(15)", x.press(15), 0);
         check.due("1", Check.shown(x), "abc|d");
-        binds(check, x, 15, 0, 15, -1, 0);
+        check.binds(x, 15, 0, 15, -1, 0);
         check.due("bindings", x.info(8), 1);
         check.due("bind is no command", x.info(13), 1);
     }
 
     private static void shorterOnesAreInTheWay(Check check) {
         EditorCore x = new EditorCore();
-        binds(check, x, 3, -1, -1, 4, 0);
-        binds(check, x, 3, 0, -1, 5, -3);
-        binds(check, x, 3, 15, -1, -1, -3);
-        binds(check, x, 3, 0, 0, 5, -3);
-        binds(check, x, 3, 15, 15, -1, -3);
-        binds(check, x, 2, 15, 15, 5, 0);
-        binds(check, x, 4, 0, 0, 5, 0);
-        binds(check, x, 5, 6, -1, 5, 0);
-        binds(check, x, 5, 6, 0, 5, -3);
-        binds(check, x, 5, 6, 15, -1, -3);
-        binds(check, x, 5, 5, 15, 5, 0);
-        binds(check, x, 5, 7, 0, 5, 0);
+        check.binds(x, 3, -1, -1, 4, 0);
+        check.binds(x, 3, 0, -1, 5, -3);
+        check.binds(x, 3, 15, -1, -1, -3);
+        check.binds(x, 3, 0, 0, 5, -3);
+        check.binds(x, 3, 15, 15, -1, -3);
+        check.binds(x, 2, 15, 15, 5, 0);
+        check.binds(x, 4, 0, 0, 5, 0);
+        check.binds(x, 5, 6, -1, 5, 0);
+        check.binds(x, 5, 6, 0, 5, -3);
+        check.binds(x, 5, 6, 15, -1, -3);
+        check.binds(x, 5, 5, 15, 5, 0);
+        check.binds(x, 5, 7, 0, 5, 0);
         check.due("bindings", x.info(8), 6);
         check.due("press(3)", x.press(3), 0);
         check.due("last command", x.info(13), 4);
@@ -89,17 +84,17 @@ public final class BindTest {
 
     private static void longerOnesGo(Check check) {
         EditorCore x = new EditorCore();
-        binds(check, x, 3, 0, -1, 4, 0);
-        binds(check, x, 3, 15, 0, 4, 0);
-        binds(check, x, 3, 15, 15, 4, 0);
-        binds(check, x, 2, 15, 15, 4, 0);
-        binds(check, x, 4, 0, 0, 4, 0);
-        binds(check, x, 3, -1, -1, -1, 0);
-        binds(check, x, 3, 15, -1, -1, 0);
+        check.binds(x, 3, 0, -1, 4, 0);
+        check.binds(x, 3, 15, 0, 4, 0);
+        check.binds(x, 3, 15, 15, 4, 0);
+        check.binds(x, 2, 15, 15, 4, 0);
+        check.binds(x, 4, 0, 0, 4, 0);
+        check.binds(x, 3, -1, -1, -1, 0);
+        check.binds(x, 3, 15, -1, -1, 0);
         check.due("for -1 nothing happens", x.info(8), 5);
-        binds(check, x, 3, 15, -1, 5, 0);
+        check.binds(x, 3, 15, -1, 5, 0);
         check.due("two go for one", x.info(8), 4);
-        binds(check, x, 3, -1, -1, 5, 0);
+        check.binds(x, 3, -1, -1, 5, 0);
         check.due("two more go for one", x.info(8), 3);
         check.due("press(3)", x.press(3), 0);
         check.due("last command", x.info(13), 5);
@@ -114,10 +109,10 @@ public final class BindTest {
     private static EditorCore withTwentyFour(Check check) {
         EditorCore x = new EditorCore();
         for (int key = 0; key < 16; key++) {
-            binds(check, x, 0, 0, key, 5, 0);
+            check.binds(x, 0, 0, key, 5, 0);
         }
         for (int key = 1; key < 9; key++) {
-            binds(check, x, 0, key, -1, 5, 0);
+            check.binds(x, 0, key, -1, 5, 0);
         }
         check.due("bindings", x.info(8), 24);
         return x;
@@ -125,29 +120,29 @@ public final class BindTest {
 
     private static void twentyFour(Check check) {
         EditorCore x = withTwentyFour(check);
-        binds(check, x, 1, -1, -1, 5, -3);
-        binds(check, x, 0, 9, -1, 5, -3);
-        binds(check, x, 0, 9, -1, -1, 0);
+        check.binds(x, 1, -1, -1, 5, -3);
+        check.binds(x, 0, 9, -1, 5, -3);
+        check.binds(x, 0, 9, -1, -1, 0);
         check.due("bindings", x.info(8), 24);
-        binds(check, x, 0, 8, -1, 4, 0);
+        check.binds(x, 0, 8, -1, 4, 0);
         check.due("one that is bound is bound anew", x.info(8), 24);
-        binds(check, x, 0, 0, -1, 4, 0);
+        check.binds(x, 0, 0, -1, 4, 0);
         check.due("16 go for one", x.info(8), 9);
         EditorCore all = withTwentyFour(check);
-        binds(check, all, 0, -1, -1, 4, 0);
+        check.binds(all, 0, -1, -1, 4, 0);
         check.due("24 go for one", all.info(8), 1);
         EditorCore one = withTwentyFour(check);
-        binds(check, one, 0, 8, -1, -1, 0);
-        binds(check, one, 15, 15, 15, 5, 0);
-        binds(check, one, 15, 15, 14, 5, -3);
+        check.binds(one, 0, 8, -1, -1, 0);
+        check.binds(one, 15, 15, 15, 5, 0);
+        check.binds(one, 15, 15, 14, 5, -3);
         check.due("bindings", one.info(8), 24);
     }
 
     private static void numbersFirst(Check check) {
         EditorCore x = withTwentyFour(check);
-        binds(check, x, 1, -1, -1, 22, -1);
-        binds(check, x, 0, 8, 1, 22, -1);
-        binds(check, x, 0, 8, 1, 21, -3);
-        binds(check, x, 0, 8, 16, 21, -1);
+        check.binds(x, 1, -1, -1, 22, -1);
+        check.binds(x, 0, 8, 1, 22, -1);
+        check.binds(x, 0, 8, 1, 21, -3);
+        check.binds(x, 0, 8, 16, 21, -1);
     }
 }

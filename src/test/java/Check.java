@@ -1,34 +1,63 @@
 /** What the tests share: comparing answers, and writing a whole state as one short text. */
 final class Check {
     private static final int ROOM = 100;
+    private static final int MOST_COLUMNS = 20;
+    private static final int MOST_ROWS = 6;
 
+    private final String name;
     private int wrong;
+
+    Check() {
+        this("");
+    }
+
+    /** The name stands before every wrong answer that is told. */
+    Check(String name) {
+        this.name = name;
+    }
 
     void due(String call, int got, int want) {
         if (got != want) {
-            wrong++;
-            System.out.println(call + " answered " + got + ", due is " + want);
+            wrong(call + " answered " + got + ", due is " + want);
         }
     }
 
     void due(String what, String got, String want) {
         if (!got.equals(want)) {
-            wrong++;
-            System.out.println(what + " gave \"" + got + "\", due is \"" + want + "\"");
+            wrong(what + " gave \"" + got + "\", due is \"" + want + "\"");
         }
+    }
+
+    void wrong(String what) {
+        wrong++;
+        System.out.println(name + what);
+    }
+
+    boolean failed() {
+        return wrong != 0;
     }
 
     /** Does the commands one after the other, each of which must be done. */
     void does(EditorCore x, int... numbers) {
         for (int number : numbers) {
-            due("command(" + number + ")", x.command(number), EditorCore.DONE);
+            answers(x, number, EditorCore.DONE);
         }
+    }
+
+    /** Does one command, whose answer is told. */
+    void answers(EditorCore x, int number, int want) {
+        due("command(" + number + ")", x.command(number), want);
     }
 
     /** Sets the argument and does one command, which must be done. */
     void doesTimes(EditorCore x, int n, int number) {
-        due("argument(" + n + ")", x.argument(n), EditorCore.DONE);
+        sets(x, n);
         does(x, number);
+    }
+
+    /** Sets the argument. */
+    void sets(EditorCore x, int n) {
+        due("argument(" + n + ")", x.argument(n), EditorCore.DONE);
     }
 
     /** Types a text, '/' being an end of line. */
@@ -36,6 +65,41 @@ final class Check {
         for (char c : letters.toCharArray()) {
             due("type(" + c + ")", x.type(c == '/' ? 10 : c), EditorCore.DONE);
         }
+    }
+
+    /** Types one character until the text has the length, as many at once as the argument allows. */
+    void fills(EditorCore x, char c, int length) {
+        for (int i = 0; i < ROOM && x.info(0) < length; i++) {
+            sets(x, Math.min(9, length - x.info(0)));
+            types(x, String.valueOf(c));
+        }
+    }
+
+    void binds(EditorCore x, int first, int second, int third, int number, int want) {
+        due("bind(" + first + ", " + second + ", " + third + ", " + number + ")",
+            x.bind(first, second, third, number), want);
+    }
+
+    /** Binds a single key. */
+    void binds(EditorCore x, int key, int number) {
+        binds(x, key, -1, -1, number, EditorCore.DONE);
+    }
+
+    void presses(EditorCore x, int key, int want) {
+        due("press(" + key + ")", x.press(key), want);
+    }
+
+    /** Records keys (written as digits) and typed characters, each of which must be done. */
+    void records(EditorCore x, String events) {
+        due("macro(true)", x.macro(true), EditorCore.DONE);
+        for (char c : events.toCharArray()) {
+            if (c >= '0' && c <= '9') {
+                due("press(" + c + ") is done", Math.min(x.press(c - '0'), 0), 0);
+            } else {
+                types(x, String.valueOf(c));
+            }
+        }
+        due("macro(false)", x.macro(false), events.length());
     }
 
     /** A new object with the text typed; '|' is where point goes, '/' an end of line. */
@@ -49,7 +113,7 @@ final class Check {
 
     /** Moves point; the last command is then 0 or 1, or the one before if point is there already. */
     void goTo(EditorCore x, int place) {
-        while (x.info(1) != place) {
+        for (int i = 0; i < ROOM && x.info(1) != place; i++) {
             int away = place - x.info(1);
             doesTimes(x, Math.min(9, Math.abs(away)), away > 0 ? 0 : 1);
         }
@@ -59,11 +123,13 @@ final class Check {
     static String shown(EditorCore x) {
         StringBuilder all = new StringBuilder();
         int length = x.info(0);
+        int point = x.info(1);
+        int mark = x.info(2);
         for (int place = 0; place <= length; place++) {
-            if (x.info(2) == place) {
+            if (mark == place) {
                 all.append('^');
             }
-            if (x.info(1) == place) {
+            if (point == place) {
                 all.append('|');
             }
             if (place < length) {
@@ -76,12 +142,15 @@ final class Check {
     /** The kills, newest first, with ',' between them. */
     static String kills(EditorCore x) {
         StringBuilder all = new StringBuilder();
-        for (int i = 0; i < x.info(3); i++) {
+        int count = x.info(3);
+        for (int i = 0; i < count; i++) {
             if (i > 0) {
                 all.append(',');
             }
-            for (int k = 0; k < ROOM && x.killed(i, k) != 0; k++) {
-                all.append(readable(x.killed(i, k)));
+            int code = x.killed(i, 0);
+            for (int k = 1; k <= ROOM && code > 0; k++) {
+                all.append(readable(code));
+                code = x.killed(i, k);
             }
         }
         return all.toString();
@@ -105,6 +174,28 @@ final class Check {
             }
         }
         return all.toString();
+    }
+
+    /** All that can be asked. */
+    static String state(EditorCore x) {
+        StringBuilder all = new StringBuilder(shown(x));
+        all.append(" markers ").append(markers(x)).append(" kills ").append(kills(x)).append(" info");
+        for (int what = 3; what <= 13; what++) {
+            all.append(' ').append(x.info(what));
+        }
+        return all.append(" frame ").append(frameSize(x)).toString();
+    }
+
+    private static String frameSize(EditorCore x) {
+        int columns = 0;
+        while (columns <= MOST_COLUMNS && x.cell(0, columns) >= 0) {
+            columns++;
+        }
+        int rows = 0;
+        while (rows <= MOST_ROWS && x.cell(rows, 0) >= 0) {
+            rows++;
+        }
+        return columns + " " + rows;
     }
 
     private static char readable(int code) {

@@ -11,19 +11,15 @@ public final class PressTest {
         check.end();
     }
 
-    private static void presses(Check check, EditorCore x, int key, int want) {
-        check.due("press(" + key + ")", x.press(key), want);
-    }
-
     private static void wrongKeys(Check check) {
         EditorCore x = new EditorCore();
         check.due("bind", x.bind(1, 2, -1, 5), 0);
-        presses(check, x, 1, 1000);
+        check.presses(x, 1, 1000);
         for (int key : new int[] {Integer.MIN_VALUE, -2, -1, 16, 17, 1000, Integer.MAX_VALUE}) {
-            presses(check, x, key, -1);
+            check.presses(x, key, -1);
         }
         check.due("the key stays pending", x.info(5), 1);
-        presses(check, x, 2, 0);
+        check.presses(x, 2, 0);
         check.due("last command", x.info(13), 5);
     }
 
@@ -32,19 +28,19 @@ public final class PressTest {
         check.due("bind", x.bind(1, -1, -1, 4), 0);
         check.due("bind", x.bind(2, 1, -1, 5), 0);
         check.due("bind", x.bind(2, 2, 2, 6), 0);
-        presses(check, x, 1, 0);
+        check.presses(x, 1, 0);
         check.due("last command", x.info(13), 4);
         check.due("pending", x.info(5), 0);
-        presses(check, x, 2, 1000);
+        check.presses(x, 2, 1000);
         check.due("pending", x.info(5), 1);
-        presses(check, x, 1, 0);
+        check.presses(x, 1, 0);
         check.due("last command", x.info(13), 5);
         check.due("pending", x.info(5), 0);
-        presses(check, x, 2, 1000);
-        presses(check, x, 2, 1000);
+        check.presses(x, 2, 1000);
+        check.presses(x, 2, 1000);
         check.due("pending", x.info(5), 2);
         check.due("a prefix is no command", x.info(13), 5);
-        presses(check, x, 2, 0);
+        check.presses(x, 2, 0);
         check.due("last command", x.info(13), 6);
         check.due("pending", x.info(5), 0);
     }
@@ -53,63 +49,63 @@ public final class PressTest {
         EditorCore x = new EditorCore();
         check.due("bind", x.bind(2, 2, 2, 6), 0);
         check.due("bind", x.bind(1, -1, -1, 4), 0);
-        presses(check, x, 0, -4);
-        presses(check, x, 2, 1000);
-        presses(check, x, 1, -4);
+        check.presses(x, 0, -4);
+        check.presses(x, 2, 1000);
+        check.presses(x, 1, -4);
         check.due("pending", x.info(5), 0);
         check.due("what is unbound calls nothing", x.info(13), -2);
-        presses(check, x, 2, 1000);
-        presses(check, x, 2, 1000);
-        presses(check, x, 3, -4);
+        check.presses(x, 2, 1000);
+        check.presses(x, 2, 1000);
+        check.presses(x, 3, -4);
         check.due("pending", x.info(5), 0);
-        presses(check, x, 2, 1000);
+        check.presses(x, 2, 1000);
         check.types(x, "a");
         check.does(x, 4);
         check.due("other calls leave it pending", x.info(5), 1);
-        presses(check, x, 2, 1000);
-        presses(check, x, 2, 0);
+        check.presses(x, 2, 1000);
+        check.presses(x, 2, 0);
         check.due("last command", x.info(13), 6);
     }
 
     private static void answersOfCommands(Check check) {
         EditorCore x = new EditorCore();
         check.due("bind", x.bind(1, 2, -1, 13), 0);
-        presses(check, x, 1, 1000);
-        presses(check, x, 2, -2);
+        check.presses(x, 1, 1000);
+        check.presses(x, 2, -2);
         check.due("pending ends when nothing is done too", x.info(5), 0);
         for (int i = 0; i < 6; i++) {
             check.due("argument(9)", x.argument(9), 0);
             check.types(x, "a");
         }
         check.does(x, 18, 12);
-        presses(check, x, 1, 1000);
-        presses(check, x, 2, -3);
+        check.presses(x, 1, 1000);
+        check.presses(x, 2, -3);
         check.due("pending ends when it is full too", x.info(5), 0);
         check.due("length", x.info(0), 54);
         check.due("bind", x.bind(3, -1, -1, 1), 0);
         check.does(x, 16);
         check.due("argument(7)", x.argument(7), 0);
-        presses(check, x, 3, 0);
+        check.presses(x, 3, 0);
         check.due("n holds for keys too", x.info(1), 47);
     }
 
     private static void bindingsChangeWhilePending(Check check) {
         EditorCore x = new EditorCore();
         check.due("bind", x.bind(1, 2, 3, 4), 0);
-        presses(check, x, 1, 1000);
-        presses(check, x, 2, 1000);
+        check.presses(x, 1, 1000);
+        check.presses(x, 2, 1000);
         check.due("bind a shorter one", x.bind(1, -1, -1, 5), 0);
         check.due("pending stays", x.info(5), 2);
-        presses(check, x, 3, -4);
+        check.presses(x, 3, -4);
         check.due("pending", x.info(5), 0);
-        presses(check, x, 1, 0);
+        check.presses(x, 1, 0);
         check.due("last command", x.info(13), 5);
         check.due("take it away", x.bind(1, -1, -1, -1), 0);
         check.due("bind", x.bind(1, 2, 3, 4), 0);
-        presses(check, x, 1, 1000);
+        check.presses(x, 1, 1000);
         check.due("take it away", x.bind(1, 2, 3, -1), 0);
         check.due("bind", x.bind(1, 4, -1, 6), 0);
-        presses(check, x, 4, 0);
+        check.presses(x, 4, 0);
         check.due("last command", x.info(13), 6);
     }
 
@@ -119,9 +115,9 @@ public final class PressTest {
             check.due("bind", x.bind(key, 15 - key, key, key % 8), 0);
         }
         for (int key = 0; key <= 15; key++) {
-            presses(check, x, key, 1000);
-            presses(check, x, 15 - key, 1000);
-            presses(check, x, key, 0);
+            check.presses(x, key, 1000);
+            check.presses(x, 15 - key, 1000);
+            check.presses(x, key, 0);
             check.due("last command", x.info(13), key % 8);
         }
     }

@@ -12,27 +12,6 @@ public final class ReplayTest {
         check.end();
     }
 
-    private static void binds(Check check, EditorCore x, int key, int number) {
-        check.due("bind(" + key + ")", x.bind(key, -1, -1, number), 0);
-    }
-
-    private static void presses(Check check, EditorCore x, int key, int want) {
-        check.due("press(" + key + ")", x.press(key), want);
-    }
-
-    /** Records keys (written as digits) and typed characters. */
-    private static void records(Check check, EditorCore x, String events) {
-        check.due("macro(true)", x.macro(true), 0);
-        for (char c : events.toCharArray()) {
-            if (c >= '0' && c <= '9') {
-                check.due("press(" + c + ") is done", Math.min(x.press(c - '0'), 0), 0);
-            } else {
-                check.types(x, String.valueOf(c));
-            }
-        }
-        check.due("macro(false)", x.macro(false), events.length());
-    }
-
     private static void nothingToDo(Check check) {
         EditorCore x = check.start("ab|");
         check.due("argument(3)", x.argument(3), 0);
@@ -53,8 +32,8 @@ public final class ReplayTest {
 
     private static void doesEvents(Check check) {
         EditorCore x = check.start("|abcdef");
-        binds(check, x, 0, 0);
-        records(check, x, "x0");
+        check.binds(x, 0, 0);
+        check.records(x, "x0");
         check.due("21", x.command(21), 2);
         check.due("once", Check.shown(x), "xaxb|cdef");
         check.due("argument(3)", x.argument(3), 0);
@@ -62,12 +41,12 @@ public final class ReplayTest {
         check.due("3 times", Check.shown(x), "xaxbxcxdxe|f");
         check.due("n", x.info(12), 1);
         check.due("last command", x.info(13), 0);
-        binds(check, x, 9, 21);
+        check.binds(x, 9, 21);
         check.due("argument(2)", x.argument(2), 0);
-        presses(check, x, 9, 4);
+        check.presses(x, 9, 4);
         check.due("by a key", Check.shown(x), "xaxbxcxdxexfx|");
-        binds(check, x, 0, 1);
-        presses(check, x, 9, 2);
+        check.binds(x, 0, 1);
+        check.presses(x, 9, 2);
         check.due("keys call what they are bound to now", Check.shown(x), "xaxbxcxdxexfx|x");
         EditorCore once = check.start("|");
         check.due("macro(true)", once.macro(true), 0);
@@ -81,22 +60,22 @@ public final class ReplayTest {
 
     private static void stopsAtTheFirstNotDone(Check check) {
         EditorCore x = check.start("|abcd");
-        binds(check, x, 8, 8);
-        records(check, x, "8x");
+        check.binds(x, 8, 8);
+        check.records(x, "8x");
         check.due("argument(9)", x.argument(9), 0);
         check.due("21", x.command(21), 6);
         check.due("stopped", Check.shown(x), "xxxx|");
         check.due("last command", x.info(13), 100);
         EditorCore full = new EditorCore();
-        records(check, full, "abcdefghijkl");
+        check.records(full, "abcdefghijkl");
         check.due("argument(9)", full.argument(9), 0);
         check.due("21, until full", full.command(21), 88);
         check.due("length", full.info(0), 100);
         check.due("21 when full", full.command(21), 0);
         check.due("last command", full.info(13), 21);
         EditorCore gone = check.start("ab|");
-        binds(check, gone, 1, 1);
-        records(check, gone, "x1");
+        check.binds(gone, 1, 1);
+        check.records(gone, "x1");
         check.due("unbinding", gone.bind(1, -1, -1, -1), 0);
         check.due("argument(3)", gone.argument(3), 0);
         check.due("21 with a key that calls nothing", gone.command(21), 1);
@@ -105,8 +84,8 @@ public final class ReplayTest {
 
     private static void isTheLastCommandOnlyAlone(Check check) {
         EditorCore x = check.start("a|b");
-        binds(check, x, 8, 8);
-        records(check, x, "8");
+        check.binds(x, 8, 8);
+        check.records(x, "8");
         check.does(x, 5);
         check.due("argument(6)", x.argument(6), 0);
         check.due("21 without an event done", x.command(21), 0);
@@ -115,8 +94,8 @@ public final class ReplayTest {
         check.due("the text", Check.shown(x), "a|");
         EditorCore goal = check.start("abc/d/efg|");
         check.due("bind", goal.bind(1, 1, -1, 0), 0);
-        records(check, goal, "1");
-        presses(check, goal, 2, -4);
+        check.records(goal, "1");
+        check.presses(goal, 2, -4);
         check.does(goal, 3);
         check.due("21 with a prefix alone", goal.command(21), 1);
         check.due("last command stays", goal.info(13), 3);
@@ -124,9 +103,9 @@ public final class ReplayTest {
         check.does(goal, 3);
         check.due("the goal stays", Check.shown(goal), "abc|/d/efg");
         EditorCore parts = check.start("ab|");
-        binds(check, parts, 8, 8);
+        check.binds(parts, 8, 8);
         check.does(parts, 1);
-        records(check, parts, "8");
+        check.records(parts, "8");
         check.types(parts, "c");
         check.due("21", parts.command(21), 0);
         check.types(parts, "d");
@@ -135,14 +114,14 @@ public final class ReplayTest {
 
     private static void notWithinItself(Check check) {
         EditorCore x = check.start("ab|");
-        binds(check, x, 1, 1);
-        binds(check, x, 2, 21);
+        check.binds(x, 1, 1);
+        check.binds(x, 2, 21);
         check.due("macro(true)", x.macro(true), 0);
-        presses(check, x, 2, -2);
-        presses(check, x, 1, 0);
+        check.presses(x, 2, -2);
+        check.presses(x, 1, 0);
         check.due("macro(false)", x.macro(false), 1);
-        records(check, x, "c1d");
-        binds(check, x, 1, 21);
+        check.records(x, "c1d");
+        check.binds(x, 1, 21);
         check.due("argument(2)", x.argument(2), 0);
         check.due("21 with 21 among its events", x.command(21), 1);
         check.due("stopped there", Check.shown(x), "adc|cb");
@@ -153,35 +132,35 @@ public final class ReplayTest {
     private static void pendingKeys(Check check) {
         EditorCore x = check.start("abc|");
         check.due("bind", x.bind(1, 2, -1, 1), 0);
-        records(check, x, "12");
+        check.records(x, "12");
         check.due("after recording", Check.shown(x), "ab|c");
         check.due("21", x.command(21), 2);
         check.due("prefixes count", Check.shown(x), "a|bc");
-        presses(check, x, 1, 1000);
+        check.presses(x, 1, 1000);
         check.due("21 with a key pending", x.command(21), 0);
         check.due("1 1 calls nothing", x.info(5), 0);
         check.due("last command", x.info(13), 21);
         check.due("macro(true)", x.macro(true), 0);
-        presses(check, x, 1, 1000);
+        check.presses(x, 1, 1000);
         check.due("macro(false)", x.macro(false), 1);
-        presses(check, x, 2, 0);
+        check.presses(x, 2, 0);
         check.due("21", x.command(21), 1);
         check.due("leaves a key pending", x.info(5), 1);
-        presses(check, x, 2, 0);
+        check.presses(x, 2, 0);
         EditorCore called = check.start("abcdef|");
         check.due("bind", called.bind(1, 2, -1, 1), 0);
         check.due("bind", called.bind(3, 4, 5, 21), 0);
-        records(check, called, "12");
-        presses(check, called, 3, 1000);
-        presses(check, called, 4, 1000);
-        presses(check, called, 5, 2);
+        check.records(called, "12");
+        check.presses(called, 3, 1000);
+        check.presses(called, 4, 1000);
+        check.presses(called, 5, 2);
         check.due("the calling keys are not pending", Check.shown(called), "abcd|ef");
     }
 
     private static void joinsWithWhatWasBefore(Check check) {
         EditorCore x = check.start("|ab/cd");
-        binds(check, x, 0, 10);
-        records(check, x, "0");
+        check.binds(x, 0, 10);
+        check.records(x, "0");
         check.due("21 behind 10", x.command(21), 1);
         check.due("the kill grows", Check.kills(x), "ab/");
         check.due("last command", x.info(13), 10);
