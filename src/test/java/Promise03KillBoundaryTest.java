@@ -157,6 +157,12 @@ public final class Promise03KillBoundaryTest {
         check.due("kills", Check.kills(x), "a,bc");
     }
 
+    static void twelveBehindTenIsANewKill(Check check) {
+        EditorCore x = region(check, "^a|bc");
+        check.does(x, 10, 12);
+        check.due("kills", Check.kills(x), "a,bc");
+    }
+
     static void elevenBehindElevenFindsNothing(Check check) {
         EditorCore x = region(check, "a^b|cd");
         check.does(x, 11);

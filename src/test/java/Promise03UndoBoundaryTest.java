@@ -128,6 +128,22 @@ public final class Promise03UndoBoundaryTest {
         check.due("no more", Check.shown(x), "abcdefghijklmnop|");
     }
 
+    static void stepsInThePlaceOfThoseNotKeptAreUndoneRight(Check check) {
+        EditorCore x = new EditorCore();
+        check.fills(x, 'a', 96);
+        check.types(x, "bcde");
+        for (int i = 0; i < 24; i++) {
+            check.doesTimes(x, i < 20 ? 4 : 2, 9);
+        }
+        check.due("length", x.info(0), 100 - 80 - 8);
+        check.does(x, 19);
+        check.due("two come back", x.info(0), 14);
+        check.does(x, 19, 19, 19);
+        check.due("two each time", x.info(0), 20);
+        check.does(x, 19);
+        check.due("four come back", x.info(0), 24);
+    }
+
     static void theStepUndoneWhoseRowIsUsedAgain(Check check) {
         EditorCore x = new EditorCore();
         for (int i = 0; i < 10; i++) {

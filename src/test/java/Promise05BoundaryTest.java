@@ -129,6 +129,20 @@ public final class Promise05BoundaryTest {
         check.presses(x, 4, 0);
     }
 
+    static void theOthersKeepTheirCommands(Check check) {
+        for (int gone = 0; gone <= 3; gone++) {
+            EditorCore x = new EditorCore();
+            for (int key = 0; key <= 3; key++) {
+                check.binds(x, key, 4 + key);
+            }
+            check.binds(x, gone, -1);
+            for (int key = 0; key <= 3; key++) {
+                check.presses(x, key, key == gone ? -4 : 0);
+                check.due("last command", x.info(13), key == gone ? key == 0 ? -2 : 3 + key : 4 + key);
+            }
+        }
+    }
+
     static void keysThatAreNotBoundCanBeTakenAway(Check check) {
         EditorCore x = new EditorCore();
         check.binds(x, 1, -1, -1, -1, 0);
