@@ -151,4 +151,18 @@ public final class Promise01BoundaryTest {
         check.due("the first object", Check.state(x), state);
         check.due("a third object", Check.state(new EditorCore()), state);
     }
+
+    // "An object is used for at most 512 calls after it has been made"
+
+    static void theLastOfFiveHundredAndTwelveCalls(Check check) {
+        EditorCore x = new EditorCore();
+        for (int i = 0; i < 254; i++) {
+            check.types(x, "a");
+            check.does(x, 9);
+        }
+        check.due("call 509: steps", x.info(4), 508);
+        check.does(x, 19);
+        check.due("call 511: steps", x.info(4), 509);
+        check.due("call 512: length", x.info(0), 1);
+    }
 }
